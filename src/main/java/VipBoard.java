@@ -75,7 +75,9 @@ public final class VipBoard {
         int over = 0;
         // A turn takes one cycle at least, so n turns are always enough.
         for (int turns = 0; turns < n && over < n; turns++) {
-            over += turn();
+            int cycles = processor.act();
+            picture.pass(cycles);
+            over += cycles + letVideoAct();
         }
         return over;
     }
@@ -134,13 +136,7 @@ public final class VipBoard {
         language.restart(pc);
     }
 
-    /** One instruction or idle cycle with what video takes behind it; answers the cycles. */
-    private int turn() {
-        int cycles = processor.act();
-        picture.pass(cycles);
-        return cycles + letVideoAct();
-    }
-
+    /** What video does when an instruction or an idle cycle is over; answers the cycles it takes. */
     private int letVideoAct() {
         if (picture.rowIsDue()) {
             fetchRow();
@@ -218,7 +214,7 @@ public final class VipBoard {
         }
 
         boolean askedIsDown() {
-            return isDown(asked);
+            return down[asked & (COUNT - 1)];
         }
     }
 
@@ -275,8 +271,8 @@ public final class VipBoard {
             this.timers = timers;
         }
 
-        void turn(boolean toOn) {
-            on = toOn;
+        void switchTo(boolean isOn) {
+            on = isOn;
         }
 
         /** EF1: shortly before the shown lines, and in the last four of them. */
@@ -341,16 +337,15 @@ public final class VipBoard {
 
         /** Keeps a byte of the row that belongs to this line. */
         void keep(int k, int value) {
-            if (isShownLine() && k >= 0 && k < ROW_BYTES) {
-                screen[(line - FIRST_SHOWN_LINE) * ROW_BYTES + k] = value;
-            }
+            screen[spot(line - FIRST_SHOWN_LINE, k)] = value;
         }
 
         int fetchedByte(int row, int k) {
-            if (row < 0 || row >= ROWS || k < 0 || k >= ROW_BYTES) {
-                return 0;
-            }
-            return screen[row * ROW_BYTES + k];
+            return screen[spot(row, k)];
+        }
+
+        private static int spot(int row, int k) {
+            return (row * ROW_BYTES + k) & (ROWS * ROW_BYTES - 1);
         }
     }
 
@@ -498,10 +493,11 @@ public final class VipBoard {
             memory.write(register(n), value);
         }
 
+        /** M(N), behind which RN grows. */
         private int take(int n) {
-            int value = at(n);
-            grow(n, 1);
-            return value;
+            int address = registers[n & (REGISTERS - 1)];
+            registers[n & (REGISTERS - 1)] = (address + 1) & 65535;
+            return memory.read(address);
         }
 
         private void execute(int group, int n) {
@@ -575,25 +571,23 @@ public final class VipBoard {
 
         /** A branch's condition; those from 8 on are the opposites. */
         private boolean holds(int n) {
-            return n < 8 ? isSo(n) : !isSo(n - 8);
-        }
-
-        private boolean isSo(int n) {
-            switch (n) {
+            boolean opposite = n >= 8;
+            switch (n & 7) {
                 case 0:
-                    return true;
+                    return !opposite;
                 case 1:
-                    return q == 1;
+                    return (q == 1) != opposite;
                 case 2:
-                    return d == 0;
+                    return (d == 0) != opposite;
                 case 3:
-                    return df == 1;
+                    return (df == 1) != opposite;
                 case 4:
-                    return picture.flag();
+                    return picture.flag() != opposite;
                 case 6:
-                    return keys.askedIsDown();
+                    return keys.askedIsDown() != opposite;
                 default:
-                    return false;
+                    // EF2 and EF4 are never on.
+                    return opposite;
             }
         }
 
@@ -606,14 +600,14 @@ public final class VipBoard {
                 putAt(x, 0);
                 d = 0;
                 if (n == 9) {
-                    picture.turn(true);
+                    picture.switchTo(true);
                 }
             }
         }
 
         private void output(int port, int value) {
             if (port == 1) {
-                picture.turn(false);
+                picture.switchTo(false);
             } else if (port == 2) {
                 keys.ask(value);
             }

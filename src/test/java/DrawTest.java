@@ -22,6 +22,8 @@ public final class DrawTest {
     private static void drawsBits(int column, int row) {
         VipBoard board = Check.chipProgram(0xA300, 0x6100 + column, 0x6200 + row, 0xD127, 0xD127);
         Check.pokeAll(board, 0x300, SPRITE);
+        board.poke(0x2FF, 0xFF);
+        board.poke(0x307, 0xFF);
         boolean[][] bits = new boolean[32][64];
         for (int k = 0; k < 7; k++) {
             for (int b = 0; b < 8; b++) {

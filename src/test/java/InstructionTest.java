@@ -117,6 +117,10 @@ public final class InstructionTest {
         CHECK.due("87: R7", done(0x87, 1, 0, 9).cpu(7), R7);
         CHECK.due("A7: R7", done(0xA7, 0xEE, 0, 9).cpu(7), 0x8FEE);
         CHECK.due("B7: R7", done(0xB7, 0xEE, 0, 9).cpu(7), 0xEE50);
+        VipBoard odd = ready(0xB7, 0xEF, 0, 9);
+        odd.set(7, 0xFFFF);
+        act(odd, 0xB7);
+        CHECK.due("B7: R7 from FFFF", odd.cpu(7), 0xEFFF);
         CHECK.due("A7: D", done(0xA7, 0xEE, 0, 9).cpu(16), 0xEE);
         CHECK.due("83: D, RP having grown", done(0x83, 1, 0, 9).cpu(16), 0x31);
         CHECK.due("A3: RP", done(0xA3, 0xEE, 0, 9).cpu(3), 0x1EE);
@@ -251,12 +255,12 @@ public final class InstructionTest {
 
     private static void control() {
         for (int n = 0; n < 2; n++) {
-            VipBoard board = ready(0x70 + n, 7, 1, 0xB2);
+            VipBoard board = ready(0x70 + n, 7, 1, 0xBF);
             board.set(21, n);
             act(board, 0x70 + n);
             state(board, 0x70 + n, 7, 1, RP + 1, RX + 1);
             CHECK.due(name(0x70 + n, "X"), board.cpu(19), 0xB);
-            CHECK.due(name(0x70 + n, "P"), board.cpu(18), 2);
+            CHECK.due(name(0x70 + n, "P"), board.cpu(18), 0xF);
             CHECK.due(name(0x70 + n, "IE"), board.cpu(21), 1 - n);
         }
         state(done(0x72, 7, 1, 0xB2), 0x72, 0xB2, 1, RP + 1, RX + 1);

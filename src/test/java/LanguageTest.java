@@ -306,6 +306,11 @@ public final class LanguageTest {
             CHECK.due("V" + n + " behind F265", board.v(n), n == 3 ? 0x11 : n + 1);
         }
         CHECK.due("I behind F265", board.v(I), 0x802);
+        board = Check.chipProgram(0x6F66, 0xA300, 0xF055, 0xF065);
+        board.poke(0x2FF, 0x77);
+        board.chip(4);
+        CHECK.due("the byte before I", board.peek(0x2FF), 0x77);
+        CHECK.due("V15 behind F065", board.v(15), 0x66);
         board = Check.chipProgram(0xA300, 0xFF65, 0xFF55);
         for (int k = 0; k < 16; k++) {
             board.poke(0x300 + k, 0xE0 + k);

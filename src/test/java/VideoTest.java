@@ -340,7 +340,7 @@ public final class VideoTest {
     }
 
     private static void timersFall() {
-        VipBoard board = Check.chipProgram(0x6102, 0x62FF, 0xF115, 0xF218);
+        VipBoard board = Check.chipProgram(0x6102, 0x62FF, 0xF115, 0xF218, 0xF118);
         board.chip(4);
         board.set(0, 0x100);
         CHECK.due("run until the last cycle", board.run(FRAME - 1), FRAME - 1);
@@ -355,5 +355,10 @@ public final class VideoTest {
         CHECK.due("DELAY after three", board.v(19), 0);
         CHECK.due("TONE after three", board.v(20), 252);
         CHECK.due("video(3) after three", board.video(3), 3);
+        board.chip(1);
+        for (int want : new int[] {1, 0, 0}) {
+            board.run(FRAME);
+            CHECK.due("TONE from 2 on", board.v(20), want);
+        }
     }
 }
