@@ -44,7 +44,7 @@ final class CallEdges {
         edges.says("Promise 12", "Throws IllegalArgumentException when it is not 0 .. 2047.", CallEdges::startRefuses);
     }
 
-    /** A board in the midst of everything: nothing of it is as it was at first. */
+    /** A board in the midst of everything, on which a change of any part would show. */
     static Board busy() {
         Board board = VideoEdges.on(100, 2, 1);
         board.pokePairs(512, 0x61AA, 0x6F33, 0xF115, 0xFF18, 0xC2FF, 0xA345, 0x2300);
@@ -67,13 +67,13 @@ final class CallEdges {
     }
 
     /** Interrupted in line 62, idle behind it, and all on the stack that goes there. */
-    private static Board idleAndFull() {
+    static Board idleAndFull() {
         Board board = VideoEdges.on(62, 0, 1);
         board.set(1, VideoEdges.CODE + 1);
-        board.run(3);
         board.set(21, 1);
         board.pokePairs(512, 0x2200);
         board.chip(12);
+        board.run(3);
         return board;
     }
 
@@ -94,7 +94,8 @@ final class CallEdges {
         int[] values = new int[23];
         Board board = new Board();
         for (int what = 0; what <= 22; what++) {
-            values[what] = what < 16 ? 60000 + what : what == 16 ? 201 : what == 18 ? 13 : what == 19 ? 14 : what == 20 ? 202 : 1;
+            // Where there is room for it, each holds another value.
+            values[what] = what == 21 ? 0 : most(what) - (most(what) > 1 ? what % 16 : 0);
             board.set(what, values[what]);
         }
         check.changes("cpu", board, () -> {
@@ -147,7 +148,8 @@ final class CallEdges {
             for (int value : new int[] {0, most(what)}) {
                 Board board = idleAndFull();
                 String name = what < 16 ? "R" + what : names[what - 16];
-                check.changes("set(" + what + ", " + value + ")", board, () -> board.set(what, value), name + "=" + value);
+                check.changes("set(" + what + ", " + value + ")", board, () -> board.set(what, value),
+                        "IDLE=1 " + name + "=" + value);
             }
         }
     }

@@ -93,8 +93,10 @@ final class DrawEdges {
     private static void bits(Check check) {
         for (int shift = 0; shift < 8; shift++) {
             for (int value : new int[] {0x80, 0x01, 0xB1, 0xFF}) {
-                draw(check, 16 + shift, 3, 1, "M0x300=" + value,
-                        spot(3, 2, value >> shift) + spot(3, 3, value << (8 - shift) & 255));
+                for (int k : new int[] {0, 6}) {
+                    draw(check, 8 * k + shift, 3, 1, "M0x300=" + value,
+                            spot(3, k, value >> shift) + spot(3, k + 1, value << (8 - shift) & 255));
+                }
             }
         }
     }

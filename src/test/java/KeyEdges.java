@@ -95,8 +95,8 @@ final class KeyEdges {
 
     private static void downAndUp(Check check) {
         for (int k : new int[] {0, 1, 14, 15}) {
-            Board board = new Board();
-            check.changes("key(" + k + ", true)", board, () -> board.key(k, true), "K" + k + "=1");
+            Board board = CallEdges.idleAndFull();
+            check.changes("key(" + k + ", true)", board, () -> board.key(k, true), "IDLE=1 K" + k + "=1");
             check.changes("key(" + k + ", true) again", board, () -> board.key(k, true), "");
             check.changes("key(" + k + ", false)", board, () -> board.key(k, false), "K" + k + "=0");
             check.changes("key(" + k + ", false) again", board, () -> board.key(k, false), "");

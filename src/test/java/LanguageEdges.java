@@ -102,6 +102,7 @@ final class LanguageEdges {
         makes(check, "E0A1 at 0xFFC", atPc(0xFFC, 0xE0A1), "PC=0");
         makes(check, "2300 at 0xFFE", atPc(0xFFE, 0x2300), "PC=0x300 DEPTH=1 TOP1=0");
         makes(check, "6142 at 0x7FE", atPc(0x7FE, 0x6142), "V1=0x42 PC=0x800");
+        makes(check, "2300 at 0xA10", atPc(0xA10, 0x2300), "PC=0x300 DEPTH=1 TOP1=0xA12");
     }
 
     private static void stackOfTwelve(Check check) {
@@ -183,7 +184,8 @@ final class LanguageEdges {
     private static void enters(Check check) {
         Turn.step(check, "", "PC=0 DEPTH=1 TOP1=514", 0x2000);
         Turn.step(check, "", "PC=4095 DEPTH=1 TOP1=514", 0x2FFF);
-        makes(check, "2000 at 0xFFF", atPc(0xFFF, 0x2A00), "PC=0xA00 DEPTH=1 TOP1=1");
+        makes(check, "2A00 at 0xFFD", atPc(0xFFD, 0x2A00), "PC=0xA00 DEPTH=1 TOP1=0xFFF");
+        makes(check, "2A00 at 0xFFF", atPc(0xFFF, 0x2A00), "PC=0xA00 DEPTH=1 TOP1=1");
     }
 
     /** The last step skips, or it does not. */

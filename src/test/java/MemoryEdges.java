@@ -124,9 +124,10 @@ final class MemoryEdges {
     private static void pokesFirstAndLast(Check check) {
         for (int address : new int[] {0, 2047}) {
             for (int value : new int[] {0, 255}) {
-                Board board = Board.with("M" + address + "=7");
+                Board board = CallEdges.idleAndFull();
+                board.poke(address, 7);
                 check.changes("poke(" + address + ", " + value + ")", board, () -> board.poke(address, value),
-                        "M" + address + "=" + value);
+                        "IDLE=1 M" + address + "=" + value);
             }
         }
     }

@@ -238,6 +238,9 @@ final class VideoEdges {
         next(board, 0x17);
         runs(check, "again in line 100", board, 1, 2, "R3=0x181 R7=1" + place(100, 12));
         board = on(100, 2, 0);
+        next(board, 0x69);
+        runs(check, "turned on once more in line 100", board, 1, 2, "R3=0x181" + place(100, 12));
+        board = on(100, 2, 0);
         next(board, 0x61, 0x69);
         runs(check, "off in line 100", board, 1, 2, "ON=0 R3=0x181 R5=0x241" + place(100, 12));
         runs(check, "on again in line 101", board, 1, 2, "ON=1 R3=0x182" + place(101, 0));
@@ -470,6 +473,9 @@ final class VideoEdges {
         board.chip(2);
         board.set(3, WAIT);
         runs(check, "while on", board, 4, 4, place(0, 0) + " R3=0x101 FRAMES=1 DELAY=8");
+        Board stepping = timed(261, 12, 255, 7);
+        stepping.pokePairs(520, 0x1208);
+        check.changes("no frame ends by steps", stepping, () -> stepping.chip(200), "");
     }
 
     private static void timersAtZero(Check check) {
