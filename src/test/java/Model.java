@@ -3,7 +3,7 @@ import java.util.Deque;
 import java.util.NoSuchElementException;
 
 /**
- * The document written a second time, as plainly as it reads and without a look at the class: one
+ * The document written a second time, as plainly as it reads and in another form than the class: one
  * cycle at a time, one bit of the screen at a time. Where the class and this one differ, one is wrong.
  */
 final class Model {
